@@ -48,6 +48,7 @@ public final class SightReducer {
     private static final int ERROR_NAME = 4;
     private static final int ERROR_TIME = 5;
 
+    private static final int LOAD_ERRORS = -10;
     private static final int REFUSED_FULL = -2;
     private static final int REFUSED_TIME = -3;
 
@@ -98,7 +99,7 @@ public final class SightReducer {
         tokens.begin(length);
         textReader.readText();
         if (tokens.code != 0) {
-            return -10 - tokens.code;
+            return LOAD_ERRORS - tokens.code;
         }
         plan.copyFrom(textReader.plan);
         log.copyFrom(textReader.log);
@@ -348,7 +349,7 @@ public final class SightReducer {
 
     public int offCourse(int time) throws IllegalArgumentException {
         needTime(time);
-        return chart.findFix(plan, log, time) ? chart.distanceOff(log, time) : HIDDEN;
+        return chart.findFix(plan, log, time) ? chart.distanceOff() : HIDDEN;
     }
 
     public int unknownCurrent(int time, boolean drift) throws IllegalArgumentException {
@@ -358,7 +359,7 @@ public final class SightReducer {
         if (!chart.findFix(plan, log, time)) {
             return HIDDEN;
         }
-        int distance = chart.distanceOff(log, time);
+        int distance = chart.distanceOff();
         return drift ? (int) down(6L * distance, time) : chart.directionOff(distance);
     }
 
@@ -398,14 +399,14 @@ public final class SightReducer {
         if (log.sightCount >= MOST_SIGHTS) {
             return REFUSED_FULL;
         }
-        history.record(log);
+        history.remember(log);
         log.addSight(body, time, altitude);
         return log.sightCount - 1;
     }
 
     public int drop(int sight) throws NoSuchElementException {
         needSight(sight);
-        history.record(log);
+        history.remember(log);
         log.removeSight(sight);
         return log.sightCount;
     }
@@ -422,7 +423,7 @@ public final class SightReducer {
         if (time <= log.lastLegTime()) {
             return REFUSED_TIME;
         }
-        history.record(log);
+        history.remember(log);
         log.addLeg(time, course, speed);
         return log.legCount - 1;
     }
@@ -433,7 +434,7 @@ public final class SightReducer {
             throw new IllegalArgumentException("drift out of range");
         }
         int driftBefore = log.drift;
-        history.record(log);
+        history.remember(log);
         log.set = set;
         log.drift = drift;
         return driftBefore;
@@ -443,7 +444,7 @@ public final class SightReducer {
         if (height < 0 || height > MOST_HEIGHT || index < -MOST_INDEX || index > MOST_INDEX) {
             throw new IllegalArgumentException("height or index error out of range");
         }
-        history.record(log);
+        history.remember(log);
         log.height = height;
         log.index = index;
         return log.dip();
@@ -456,6 +457,7 @@ public final class SightReducer {
         chart.drawLine(plan, log, sight, 0);
         Line line = chart.lineOf(sight);
         int altitude = Math.abs(line.observed);
+        int rest = altitude % 60;
         formatted.setLength(0);
         plan.appendName(at(log.sightBodies, sight), formatted);
         formatted.append(' ');
@@ -463,7 +465,7 @@ public final class SightReducer {
             formatted.append('-');
         }
         formatted.append(altitude / 60).append('\'');
-        formatted.append(altitude % 60 / 10).append(altitude % 10);
+        formatted.append(rest / 10).append(rest % 10);
         formatted.append(" z").append(line.azimuth / 60);
         formatted.append(' ').append(line.intercept >= 0 ? 't' : 'a');
         formatted.append(Math.abs(line.intercept));
@@ -770,7 +772,7 @@ public final class SightReducer {
         int count;
 
         History() {
-            for (int place = 0; place < MOST_UNDOS; place++) {
+            for (int place = 0; place < ring.length; place++) {
                 ring[place] = new Log();
             }
         }
@@ -780,7 +782,7 @@ public final class SightReducer {
             count = 0;
         }
 
-        void record(Log log) {
+        void remember(Log log) {
             copyLog(log, logAt(next));
             next = (next + 1) % MOST_UNDOS;
             count = Math.min(count + 1, MOST_UNDOS);
@@ -961,7 +963,7 @@ public final class SightReducer {
         private static boolean isBeside(Place from, Place to, Place last, int east, int north) {
             long turnToPlace = turn(from, to, east, north);
             long turnToLast = turn(from, to, last.east, last.north);
-            return turnToPlace == 0 || turnToLast == 0 || turnToPlace > 0 == turnToLast > 0;
+            return turnToPlace == 0 || turnToLast == 0 || (turnToPlace > 0) == (turnToLast > 0);
         }
 
         private static long turn(Place from, Place to, int east, int north) {
@@ -980,7 +982,7 @@ public final class SightReducer {
         final Hat cocked = new Hat();
 
         Chart() {
-            for (int sight = 0; sight < MOST_SIGHTS; sight++) {
+            for (int sight = 0; sight < lines.length; sight++) {
                 lines[sight] = new Line();
             }
         }
@@ -1045,18 +1047,18 @@ public final class SightReducer {
                 long divisor = down(determinant, 1000);
                 fixed.putAt(down((p * c - q * b) * 1000, divisor), down((q * a - p * b) * 1000, divisor));
             }
+            ship.sailTo(log, time);
             return fixed.isKnown;
         }
 
-        /** How far the fix is from the ship, which is sailed to the time of the fix for it. */
-        int distanceOff(Log log, int time) {
-            ship.sailTo(log, time);
+        /** How far the fix is from the ship, both as findFix left them. */
+        int distanceOff() {
             long east = fixed.east - ship.east;
             long north = fixed.north - ship.north;
             return rootOf(east * east + north * north);
         }
 
-        /** Whither the fix is from the ship, where distanceOff has left it. */
+        /** Whither the fix is from the ship, both as findFix left them. */
         int directionOff(int distance) {
             if (distance == 0) {
                 return 0;
@@ -1160,7 +1162,7 @@ public final class SightReducer {
         boolean isWord(String word) {
             boolean same = kind == WORD && wordLength() == word.length();
             for (int letter = 0; same && letter < word.length(); letter++) {
-                same = wordLetter(letter) == word.charAt(letter);
+                same = byteAt(start + letter) == word.charAt(letter);
             }
             return same;
         }
@@ -1339,6 +1341,14 @@ public final class SightReducer {
 
     /** Evaluates a test for all sights at once: bit n of a result tells whether it holds for sight n. */
     private static final class QueryReader {
+        private static final int NUMBER = 0;
+        private static final int BODY = 1;
+        private static final int TIME = 2;
+        private static final int ALTITUDE = 3;
+        private static final int EXPECTED = 4;
+        private static final int AZIMUTH = 5;
+        private static final int AWAY = 6;
+
         private final Tokens tokens;
         private final Log log;
         private final Chart chart;
@@ -1380,7 +1390,8 @@ public final class SightReducer {
             }
             tokens.advance();
             if (isNot) {
-                return ~readFactor(open + 1) & (1 << log.sightCount) - 1;
+                int everySight = (1 << log.sightCount) - 1;
+                return everySight & ~readFactor(open + 1);
             }
             int holding = readTest(open + 1);
             tokens.needSign(')');
@@ -1388,14 +1399,14 @@ public final class SightReducer {
         }
 
         private int readComparison() {
-            readValue(left);
+            readValue(left, propertyHere());
             boolean isLess = tokens.isSign('<');
             boolean isGreater = tokens.isSign('>');
             if (!isLess && !isGreater && !tokens.isSign('=')) {
                 tokens.fail(ERROR_TOKEN);
             }
             tokens.advance();
-            readValue(right);
+            readValue(right, propertyHere());
             int holding = 0;
             for (int sight = 0; sight < log.sightCount; sight++) {
                 int order = Integer.compare(at(left, sight), at(right, sight));
@@ -1406,55 +1417,51 @@ public final class SightReducer {
             return holding;
         }
 
-        private void readValue(int[] values) {
-            boolean isProperty = tokens.isAnyWord();
-            int number = isProperty ? 0 : tokens.numberHere(0, MOST_QUERY_NUMBER);
-            int property = propertyHere();
-            if (isProperty && property == NONE) {
-                tokens.fail(ERROR_TOKEN);
-            }
+        /** A word that is no property is refused as a number is asked for in its place. */
+        private void readValue(int[] values, int property) {
+            int number = property == NONE ? tokens.numberHere(0, MOST_QUERY_NUMBER) : 0;
             for (int sight = 0; sight < log.sightCount; sight++) {
-                put(values, sight, isProperty ? propertyOf(sight, property) : number);
+                put(values, sight, property == NONE ? number : propertyOf(sight, property));
             }
             tokens.advance();
         }
 
         private int propertyHere() {
             if (tokens.isWord("sight")) {
-                return 0;
+                return NUMBER;
             }
             if (tokens.isWord("body")) {
-                return 1;
+                return BODY;
             }
             if (tokens.isWord("time")) {
-                return 2;
+                return TIME;
             }
             if (tokens.isWord("altitude")) {
-                return 3;
+                return ALTITUDE;
             }
             if (tokens.isWord("expected")) {
-                return 4;
+                return EXPECTED;
             }
             if (tokens.isWord("azimuth")) {
-                return 5;
+                return AZIMUTH;
             }
-            return tokens.isWord("away") ? 6 : NONE;
+            return tokens.isWord("away") ? AWAY : NONE;
         }
 
         private int propertyOf(int sight, int property) {
             Line line = chart.lineOf(sight);
             switch (property) {
-                case 0:
+                case NUMBER:
                     return sight;
-                case 1:
+                case BODY:
                     return at(log.sightBodies, sight);
-                case 2:
+                case TIME:
                     return at(log.sightTimes, sight);
-                case 3:
+                case ALTITUDE:
                     return line.observed;
-                case 4:
+                case EXPECTED:
                     return line.expected;
-                case 5:
+                case AZIMUTH:
                     return line.azimuth;
                 default:
                     return Math.abs(line.intercept);
