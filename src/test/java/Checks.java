@@ -1,4 +1,8 @@
+import java.nio.ByteBuffer;
 import java.nio.charset.StandardCharsets;
+import java.util.ArrayList;
+import java.util.Arrays;
+import java.util.List;
 import java.util.NoSuchElementException;
 
 /** Counts the answers that are not as due, and feeds texts. */
@@ -48,16 +52,23 @@ final class Checks {
         }
     }
 
-    /** Feeds a text and the spaces that its last 20 bytes need. */
-    static void feed(SightReducer x, String text) {
+    /** The parameters of the calls of feed that append a text and the spaces that its last 20 bytes need. */
+    static List<Object[]> feeds(String text) {
         byte[] bytes = text.getBytes(StandardCharsets.ISO_8859_1);
+        List<Object[]> feeds = new ArrayList<>();
         for (int from = 0; from < bytes.length; from += 20) {
-            int[] fours = new int[5];
-            for (int i = 0; i < 20; i++) {
-                int one = from + i < bytes.length ? bytes[from + i] & 255 : ' ';
-                fours[i / 4] = fours[i / 4] << 8 | one;
-            }
-            x.feed(fours[0], fours[1], fours[2], fours[3], fours[4]);
+            byte[] twenty = new byte[20];
+            Arrays.fill(twenty, (byte) ' ');
+            System.arraycopy(bytes, from, twenty, 0, Math.min(20, bytes.length - from));
+            ByteBuffer fours = ByteBuffer.wrap(twenty);
+            feeds.add(new Object[] {fours.getInt(), fours.getInt(), fours.getInt(), fours.getInt(), fours.getInt()});
+        }
+        return feeds;
+    }
+
+    static void feed(SightReducer x, String text) {
+        for (Object[] five : feeds(text)) {
+            x.feed((Integer) five[0], (Integer) five[1], (Integer) five[2], (Integer) five[3], (Integer) five[4]);
         }
     }
 
@@ -79,7 +90,7 @@ final class Checks {
         return text.toString();
     }
 
-    /** Everything that can be asked without changing anything, but for lines carried and fixes. */
+    /** What a text tells and operations change, and the formatted text. */
     static String everything(SightReducer x) {
         StringBuilder all = new StringBuilder();
         for (int what = 0; what <= 8; what++) {
@@ -89,8 +100,7 @@ final class Checks {
         row(all, x, 'l', x.told(1), 3);
         row(all, x, 's', x.told(2), 9);
         all.append(x.displacement(5000, true)).append(' ').append(x.displacement(5000, false)).append(' ');
-        all.append(x.undoCount()).append(' ').append(x.errorPosition()).append(' ').append(formatted(x));
-        return all.toString();
+        return all.append(formatted(x)).toString();
     }
 
     private static void row(StringBuilder all, SightReducer x, char kind, int count, int properties) {

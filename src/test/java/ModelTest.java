@@ -1,6 +1,5 @@
 import java.lang.reflect.InvocationTargetException;
 import java.lang.reflect.Method;
-import java.nio.charset.StandardCharsets;
 import java.util.HashMap;
 import java.util.Map;
 
@@ -72,9 +71,9 @@ public final class ModelTest {
         for (int call = 0; call < CALLS; call++) {
             int way = pick(40);
             if (call == 0 && run % 10 != 0 || way == 0) {
-                text("load", text(), 20);
+                text("load", text());
             } else if (way < 4) {
-                text("query", question(), 20);
+                text("query", question());
             } else {
                 single();
             }
@@ -206,19 +205,17 @@ public final class ModelTest {
         }
     }
 
-    private void text(String name, String right, int mutations) {
+    /** Feeds a text, in a third of the cases made wrong, and reads it unless the call is to be left out. */
+    private void text(String name, String right) {
         String text = pick(3) == 0 ? mutated(right, 1 + pick(3)) : right;
-        byte[] bytes = text.getBytes(StandardCharsets.ISO_8859_1);
-        for (int from = 0; from < bytes.length; from += mutations) {
-            int[] fours = new int[5];
-            for (int i = 0; i < 20; i++) {
-                fours[i / 4] = fours[i / 4] << 8 | (from + i < bytes.length ? bytes[from + i] & 255 : ' ');
-            }
-            both("feed", fours[0], fours[1], fours[2], fours[3], fours[4]);
-        }
         trace.append('"').append(text).append("\"\n");
-        both(name, pick(30) == 0 ? pick(bytes.length + 1) : bytes.length);
-        both("errorPosition");
+        for (Object[] five : Checks.feeds(text)) {
+            both("feed", five);
+        }
+        if (pick(30) != 0) {
+            both(name, pick(30) == 0 ? pick(text.length() + 1) : text.length());
+            both("errorPosition");
+        }
     }
 
     private String mutated(String text, int times) {
