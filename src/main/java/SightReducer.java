@@ -1361,7 +1361,7 @@ public final class SightReducer {
             chart = newChart;
         }
 
-        int readTest(int open) {
+        private int readTest(int open) {
             int holding = readConjunction(open);
             for (int part = 0; part < MOST_QUERY_BYTES && tokens.isWord("or"); part++) {
                 tokens.advance();
