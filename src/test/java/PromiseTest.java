@@ -502,6 +502,10 @@ public final class PromiseTest {
         Checks.due("promise 17: along with the ship", x.isInside(0, 1, 2, 60, 900, 500), true);
         Checks.due("promise 17: and no more there", x.isInside(0, 1, 2, 60, 300, 500), false);
         Checks.due("promise 17: no hat", x.isInside(0, 1, 3, 0, 300, 500), false);
+        SightReducer point = loaded(SEA + "body mid 1800 18000;sight north 0 1801;sight east 0 1801;sight mid 0 1537;");
+        Checks.due("promise 15: three lines through one place", point.hat(0, 1, 2, 0, 0), 0);
+        Checks.due("promise 16: that is a hat", point.smallestHat(0), 102);
+        Checks.due("promise 17: all cross products are 0 there", point.isInside(0, 1, 2, 0, 70, -9), true);
         Checks.missing("promise 17: no first sight", () -> x.isInside(4, 1, 2, -1, 0, 0));
         Checks.missing("promise 17: no second sight", () -> x.isInside(0, -1, 2, 0, LEAST, 0));
         Checks.missing("promise 17: no third sight", () -> x.isInside(0, 1, 4, 0, 0, MOST));
@@ -593,6 +597,10 @@ public final class PromiseTest {
         Checks.due("promise 21: no distance", here.offCourse(7), 0);
         Checks.due("promise 22: no drift", here.unknownCurrent(7, true), 0);
         Checks.due("promise 22: no set", here.unknownCurrent(7, false), 0);
+        SightReducer near = loaded("body n 3600 21585;body e 0 17985;leg 0 0 6;sight n 1 1801;sight e 1 1801;");
+        Checks.due("promise 21: the least distance", near.offCourse(1), 1);
+        Checks.due("promise 22: drift of the least distance", near.unknownCurrent(1, true), 6);
+        Checks.due("promise 22: set of the least distance", near.unknownCurrent(1, false), 10800);
         SightReducer alone = loaded(SEA + "sight north 0 1806;");
         Checks.due("promise 21: no fix", alone.offCourse(7), HIDDEN);
         Checks.due("promise 22: no fix, set", alone.unknownCurrent(7, false), HIDDEN);
@@ -727,6 +735,9 @@ public final class PromiseTest {
         Checks.due("promise 30: toward", Checks.formatted(x), "north 30'05 z0 t5");
         Checks.due("promise 30: length", x.format(1), 19);
         Checks.due("promise 30: away", Checks.formatted(x), "west 29'50 z270 a10");
+        Checks.load(x, SEA + "body abcdefgh 0 0;sight north 0 1806;sight east 0 1801;sight abcdefgh 0 300;");
+        x.format(1);
+        Checks.due("promise 30: an intercept of 0 is toward", Checks.formatted(x), "east 30'00 z90 t0");
         x.format(2);
         Checks.due("promise 30: a longer name", Checks.formatted(x),
                 "abcdefgh 4'" + (x.sight(2, 4) - 240) + " z0 a" + (5400 - x.sight(2, 4)));
