@@ -1,11 +1,15 @@
+import java.lang.reflect.InvocationTargetException;
+import java.lang.reflect.Method;
+import java.lang.reflect.Modifier;
 import java.nio.ByteBuffer;
 import java.nio.charset.StandardCharsets;
 import java.util.ArrayList;
 import java.util.Arrays;
+import java.util.Comparator;
 import java.util.List;
 import java.util.NoSuchElementException;
 
-/** Counts the answers that are not as due, and feeds texts. */
+/** Counts the answers that are not as due, runs the tests of a class, and feeds texts. */
 final class Checks {
     interface Call {
         Object make();
@@ -15,6 +19,7 @@ final class Checks {
     private static final Class<?> MISSING = NoSuchElementException.class;
     private static int made = 0;
     private static int wrong = 0;
+    private static String test = "";
 
     private Checks() {
     }
@@ -23,7 +28,7 @@ final class Checks {
         made++;
         if (!got.equals(want)) {
             wrong++;
-            System.out.println(call + " answered " + got + ", due is " + want);
+            System.out.println(test + call + " answered " + got + ", due is " + want);
         }
     }
 
@@ -43,6 +48,30 @@ final class Checks {
             got = e.getClass();
         }
         due(call, got, want);
+    }
+
+    /** Calls each method of a class that is not private and has no parameters: these are its tests. */
+    static void runAll(Class<?> tests) throws IllegalAccessException {
+        Method[] methods = tests.getDeclaredMethods();
+        Arrays.sort(methods, Comparator.comparing(Method::getName));
+        for (Method method : methods) {
+            if (!Modifier.isPrivate(method.getModifiers()) && method.getParameterCount() == 0 && !method.isSynthetic()) {
+                run(method);
+            }
+        }
+        finish(tests.getSimpleName());
+    }
+
+    private static void run(Method method) throws IllegalAccessException {
+        int before = made;
+        test = method.getName() + ": ";
+        try {
+            method.invoke(null);
+        } catch (InvocationTargetException e) {
+            due("the test itself", e.getCause(), "");
+        }
+        due("the test checks something", made > before, true);
+        test = "";
     }
 
     static void finish(String name) {
@@ -75,6 +104,12 @@ final class Checks {
     static int load(SightReducer x, String text) {
         feed(x, text);
         return x.load(text.length());
+    }
+
+    static SightReducer loaded(String text) {
+        SightReducer x = new SightReducer();
+        due("loading " + text + " went well", load(x, text) >= 0, true);
+        return x;
     }
 
     static int query(SightReducer x, String text) {

@@ -55,15 +55,8 @@ public final class PromiseTest {
         Checks.finish("PromiseTest");
     }
 
-    private static SightReducer loaded(String text) {
-        SightReducer x = new SightReducer();
-        int answer = Checks.load(x, text);
-        Checks.due("loading " + text + " went well", answer >= 0, true);
-        return x;
-    }
-
     private static void refusedText(String text, int code, int position) {
-        SightReducer x = loaded("start 7 8;eye 9;index -3;current 4 5;body a 1 2;leg 3 4 5;sight a 6 700;");
+        SightReducer x = Checks.loaded("start 7 8;eye 9;index -3;current 4 5;body a 1 2;leg 3 4 5;sight a 6 700;");
         x.setCurrent(10, 11);
         x.saveSnapshot();
         String before = Checks.everything(x);
@@ -276,7 +269,7 @@ public final class PromiseTest {
     }
 
     private static void told() {
-        SightReducer x = loaded("start 11 -12;eye 13;index -14;current 15 16;" + SEA + "leg 0 0 0;leg 1 0 0;"
+        SightReducer x = Checks.loaded("start 11 -12;eye 13;index -14;current 15 16;" + SEA + "leg 0 0 0;leg 1 0 0;"
                 + "sight east 0 400;sight east 0 400;sight east 0 400;");
         int[] due = {4, 2, 3, 11, -12, 13, -14, 15, 16};
         for (int what = 0; what < due.length; what++) {
@@ -287,7 +280,7 @@ public final class PromiseTest {
     }
 
     private static void body() {
-        SightReducer x = loaded(SEA + "sight west 0 400;sight east 0 400;sight west 1 500;");
+        SightReducer x = Checks.loaded(SEA + "sight west 0 400;sight east 0 400;sight west 1 500;");
         int[][] due = {{3600, 0, 5, 0}, {0, 18000, 4, 1}, {-3600, 0, 5, 0}, {0, 3600, 4, 2}};
         for (int body = 0; body < 4; body++) {
             for (int what = 0; what < 4; what++) {
@@ -303,7 +296,7 @@ public final class PromiseTest {
     }
 
     private static void leg() {
-        SightReducer x = loaded("leg 3 4 5;leg 5000 21599 400;");
+        SightReducer x = Checks.loaded("leg 3 4 5;leg 5000 21599 400;");
         Checks.due("promise 9: time", x.leg(0, 0), 3);
         Checks.due("promise 9: course", x.leg(0, 1), 4);
         Checks.due("promise 9: speed", x.leg(0, 2), 5);
@@ -315,7 +308,7 @@ public final class PromiseTest {
     }
 
     private static void displacement() {
-        SightReducer x = loaded("leg 10 5400 60;leg 70 0 120;leg 100 16200 60;");
+        SightReducer x = Checks.loaded("leg 10 5400 60;leg 70 0 120;leg 100 16200 60;");
         int[][] due = {{0, 0, 0}, {10, 0, 0}, {11, 10, 0}, {70, 600, 0}, {71, 600, 20}, {100, 600, 600},
             {160, 0, 600}, {5000, -48400, 600}};
         for (int[] row : due) {
@@ -327,35 +320,35 @@ public final class PromiseTest {
         Checks.due("promise 10: and besides", x.displacement(100, true), 700);
         Checks.illegal("promise 10: time -1", () -> x.displacement(-1, true));
         Checks.illegal("promise 10: time 5001", () -> x.displacement(5001, false));
-        SightReducer y = loaded("leg 0 12600 7;");
+        SightReducer y = Checks.loaded("leg 0 12600 7;");
         Checks.due("promise 10: 7 * 1 / 6 is 1, half of it west rounded down", y.displacement(1, false), -1);
         Checks.due("promise 10: south rounded down", y.displacement(1, true), -1);
         Checks.due("promise 10: a way rounded down", y.displacement(5, false), -3);
-        SightReducer z = loaded("current 12600 1;leg 0 12600 7;leg 1 12600 7;leg 2 12600 7;");
+        SightReducer z = Checks.loaded("current 12600 1;leg 0 12600 7;leg 1 12600 7;leg 2 12600 7;");
         Checks.due("promise 10: each part is rounded", z.displacement(6, false), -1 - 1 - 2 - 1);
-        SightReducer far = loaded("current 0 100;leg 0 0 400;");
+        SightReducer far = Checks.loaded("current 0 100;leg 0 0 400;");
         Checks.due("promise 10: the farthest", far.displacement(5000, true), 333333 + 83333);
     }
 
     private static void reckoned() {
-        SightReducer x = loaded("start 100 200;leg 0 5400 60;leg 60 10800 60;");
+        SightReducer x = Checks.loaded("start 100 200;leg 0 5400 60;leg 60 10800 60;");
         Checks.due("promise 11: latitude at first", x.reckoned(0, false), 100);
         Checks.due("promise 11: longitude at first", x.reckoned(0, true), 200);
         Checks.due("promise 11: latitude", x.reckoned(120, false), 94);
         Checks.due("promise 11: latitude rounded down", x.reckoned(61, false), 99);
         Checks.due("promise 11: longitude", x.reckoned(60, true), 206);
-        Checks.due("promise 11: at latitude 60", loaded("start -3600 0;leg 0 5400 60;").reckoned(60, true), 12);
-        Checks.due("promise 11: rounded down", loaded("leg 0 16200 60;").reckoned(1, true), -1);
-        Checks.due("promise 11: past the east end", loaded("start 0 10799;leg 0 5400 60;").reckoned(10, true), -10800);
-        Checks.due("promise 11: the west end", loaded("start 0 -10799;leg 0 16200 60;").reckoned(10, true), -10800);
-        Checks.due("promise 11: past it", loaded("start 0 -10799;leg 0 16200 60;").reckoned(11, true), 10799);
-        Checks.due("promise 11: past the pole", loaded("start 3600 0;leg 0 0 400;").reckoned(5000, false), 3600 + 3333);
+        Checks.due("promise 11: at latitude 60", Checks.loaded("start -3600 0;leg 0 5400 60;").reckoned(60, true), 12);
+        Checks.due("promise 11: rounded down", Checks.loaded("leg 0 16200 60;").reckoned(1, true), -1);
+        Checks.due("promise 11: past the east end", Checks.loaded("start 0 10799;leg 0 5400 60;").reckoned(10, true), -10800);
+        Checks.due("promise 11: the west end", Checks.loaded("start 0 -10799;leg 0 16200 60;").reckoned(10, true), -10800);
+        Checks.due("promise 11: past it", Checks.loaded("start 0 -10799;leg 0 16200 60;").reckoned(11, true), 10799);
+        Checks.due("promise 11: past the pole", Checks.loaded("start 3600 0;leg 0 0 400;").reckoned(5000, false), 3600 + 3333);
         Checks.illegal("promise 11: time -1", () -> x.reckoned(-1, true));
         Checks.illegal("promise 11: time 5001", () -> x.reckoned(5001, false));
     }
 
     private static void sight() {
-        SightReducer x = loaded(SEA + "eye 12;index 5;"
+        SightReducer x = Checks.loaded(SEA + "eye 12;index 5;"
                 + "sight north 0 1806;sight east 0 1802;sight south 0 1702;sight west 0 1803;");
         int[][] due = {{0, 0, 1806, 1805, 1804, 1800, 0, 4, 400}, {1, 0, 1802, 1801, 1800, 1800, 5400, 0, 0},
             {2, 0, 1702, 1701, 1700, 1800, 10800, -100, -10000}, {3, 0, 1803, 1802, 1801, 1800, 16200, 1, 100}};
@@ -372,32 +365,32 @@ public final class PromiseTest {
     }
 
     private static void sightsAtTheEdges() {
-        SightReducer low = loaded("eye 50;index -60;body a 0 0;sight a 0 300;");
+        SightReducer low = Checks.loaded("eye 50;index -60;body a 0 0;sight a 0 300;");
         Checks.due("promise 12: the dip of 50 is 12", low.sight(0, 3), 228);
         Checks.due("promise 12: refraction at 228", low.sight(0, 4), 228 - low.sine(5628) / low.sine(228));
-        SightReducer high = loaded("index 60;body a 0 0;sight a 0 5100;");
+        SightReducer high = Checks.loaded("index 60;body a 0 0;sight a 0 5100;");
         Checks.due("promise 12: no refraction on high", high.sight(0, 4), 5160);
         Checks.due("promise 12: overhead", high.sight(0, 5), 5400);
         Checks.due("promise 12: overhead the azimuth is 0", high.sight(0, 6), 0);
-        SightReducer turned = loaded("body a 0 3600;sight a 240 1801;");
+        SightReducer turned = Checks.loaded("body a 0 3600;sight a 240 1801;");
         Checks.due("promise 12: 240 minutes later the hour angle is 7200", turned.sight(0, 5), -1800);
         Checks.due("promise 12: below the horizon in the west", turned.sight(0, 6), 16200);
         Checks.due("promise 12: intercept to a body below the horizon", turned.sight(0, 7), 3600);
-        SightReducer moved = loaded("leg 0 0 60;current 5400 60;body north 3600 0;sight north 60 1801;");
+        SightReducer moved = Checks.loaded("leg 0 0 60;current 5400 60;body north 3600 0;sight north 60 1801;");
         Checks.due("promise 12: the reckoned latitude counts", moved.reckoned(60, false), 6);
         Checks.due("promise 12: offset from the start", moved.sight(0, 8) - 100 * moved.sight(0, 7),
                 Math.floorDiv(600 * moved.sine(moved.sight(0, 6)) + 600 * moved.sine(moved.sight(0, 6) + 5400), 1000000));
-        SightReducer astride = loaded("start 0 10799;leg 0 5400 60;body e 0 7201;sight e 0 1801;sight e 60 2000;");
+        SightReducer astride = Checks.loaded("start 0 10799;leg 0 5400 60;body e 0 7201;sight e 0 1801;sight e 60 2000;");
         Checks.due("promise 12: over the date line", astride.reckoned(60, true), -10795);
         Checks.due("promise 12: azimuth east", astride.sight(1, 6), 5400);
         Checks.due("promise 12: the difference of longitudes is small",
                 astride.sight(1, 8) - 100 * astride.sight(1, 7), 600);
-        SightReducer pole = loaded("start 3600 0;leg 0 0 400;body a 1200 5000;sight a 5000 1801;");
+        SightReducer pole = Checks.loaded("start 3600 0;leg 0 0 400;body a 1200 5000;sight a 5000 1801;");
         Checks.due("promise 12: beyond the pole the divisor is below 0, so z is 0", pole.sight(0, 6), 0);
     }
 
     private static void carried() {
-        SightReducer x = loaded(SEA + "leg 0 5400 60;sight north 0 1806;sight east 0 1804;sight west 0 1803;");
+        SightReducer x = Checks.loaded(SEA + "leg 0 5400 60;sight north 0 1806;sight east 0 1804;sight west 0 1803;");
         Checks.due("promise 13: at its own time", x.carried(1, 0), 300);
         Checks.due("promise 13: along with the ship", x.carried(1, 60), 900);
         Checks.due("promise 13: against it", x.carried(2, 60), -400);
@@ -411,7 +404,7 @@ public final class PromiseTest {
     }
 
     private static void crossing() {
-        SightReducer x = loaded(HAT + "sight north 0 1810;sight south 0 1801;leg 0 5400 60;");
+        SightReducer x = Checks.loaded(HAT + "sight north 0 1810;sight south 0 1801;leg 0 5400 60;");
         Checks.due("promise 14: east", x.crossing(0, 1, 0, false), 300);
         Checks.due("promise 14: north", x.crossing(0, 1, 0, true), 500);
         Checks.due("promise 14: the other order", x.crossing(1, 0, 0, false), 300);
@@ -424,14 +417,14 @@ public final class PromiseTest {
         Checks.missing("promise 14: no second sight, checked first", () -> x.crossing(0, -1, -1, true));
         Checks.illegal("promise 14: time -1", () -> x.crossing(0, 1, -1, true));
         Checks.illegal("promise 14: time 5001", () -> x.crossing(0, 1, 5001, true));
-        SightReducer far = loaded(SEA + "body up 3500 21500;sight north 0 300;sight up 0 5100;sight up 0 5000;");
+        SightReducer far = Checks.loaded(SEA + "body up 3500 21500;sight north 0 300;sight up 0 5100;sight up 0 5000;");
         Checks.due("promise 14: nearly parallel lines", far.crossing(0, 1, 0, true), HIDDEN);
-        SightReducer wide = loaded("body north 3600 0;body low 1800 8000;sight north 0 300;sight low 0 5100;");
+        SightReducer wide = Checks.loaded("body north 3600 0;body low 1800 8000;sight north 0 300;sight low 0 5100;");
         Checks.due("promise 14: limited", wide.crossing(0, 1, 0, false), -1000000);
     }
 
     private static void hat() {
-        SightReducer x = loaded(HAT + "sight north 0 1801;leg 0 5400 60;");
+        SightReducer x = Checks.loaded(HAT + "sight north 0 1801;leg 0 5400 60;");
         int slantEast = x.crossing(0, 2, 0, false);
         int slantNorth = x.crossing(1, 2, 0, true);
         Checks.due("promise 15: a slant to the north-east", x.sight(2, 6) > 1000 && x.sight(2, 6) < 4400, true);
@@ -457,7 +450,7 @@ public final class PromiseTest {
     }
 
     private static void smallestHat() {
-        SightReducer x = loaded(HAT + "sight west 0 1900;sight south 0 1900;");
+        SightReducer x = Checks.loaded(HAT + "sight west 0 1900;sight south 0 1900;");
         int least = Integer.MAX_VALUE;
         int found = NONE;
         for (int one = 4; one >= 0; one--) {
@@ -475,17 +468,17 @@ public final class PromiseTest {
         Checks.due("promise 16: the nearest lines", found, 102);
         x.drop(0);
         Checks.due("promise 16: without the first", x.smallestHat(0) != NONE, true);
-        SightReducer twice = loaded(HAT + "sight mid 0 1600;sight north 0 1806;");
+        SightReducer twice = Checks.loaded(HAT + "sight mid 0 1600;sight north 0 1806;");
         Checks.due("promise 16: the first on a tie", twice.smallestHat(5000), 102);
-        Checks.due("promise 16: no three lines", loaded(SEA + "sight north 0 1806;sight east 0 1804;").smallestHat(0), NONE);
-        Checks.due("promise 16: no hat", loaded(SEA + "sight north 0 1806;sight east 0 1804;sight south 0 1804;")
+        Checks.due("promise 16: no three lines", Checks.loaded(SEA + "sight north 0 1806;sight east 0 1804;").smallestHat(0), NONE);
+        Checks.due("promise 16: no hat", Checks.loaded(SEA + "sight north 0 1806;sight east 0 1804;sight south 0 1804;")
                 .smallestHat(0), NONE);
         Checks.illegal("promise 16: time -1", () -> x.smallestHat(-1));
         Checks.illegal("promise 16: time 5001", () -> x.smallestHat(5001));
     }
 
     private static void isInside() {
-        SightReducer x = loaded(HAT + "leg 0 5400 60;sight north 0 1801;");
+        SightReducer x = Checks.loaded(HAT + "leg 0 5400 60;sight north 0 1801;");
         int middleEast = x.hat(0, 1, 2, 0, 1);
         int middleNorth = x.hat(0, 1, 2, 0, 2);
         int slantNorth = x.crossing(1, 2, 0, true);
@@ -502,7 +495,7 @@ public final class PromiseTest {
         Checks.due("promise 17: along with the ship", x.isInside(0, 1, 2, 60, 900, 500), true);
         Checks.due("promise 17: and no more there", x.isInside(0, 1, 2, 60, 300, 500), false);
         Checks.due("promise 17: no hat", x.isInside(0, 1, 3, 0, 300, 500), false);
-        SightReducer point = loaded(SEA + "body mid 1800 18000;sight north 0 1801;sight east 0 1801;sight mid 0 1537;");
+        SightReducer point = Checks.loaded(SEA + "body mid 1800 18000;sight north 0 1801;sight east 0 1801;sight mid 0 1537;");
         Checks.due("promise 15: three lines through one place", point.hat(0, 1, 2, 0, 0), 0);
         Checks.due("promise 16: that is a hat", point.smallestHat(0), 102);
         Checks.due("promise 17: all cross products are 0 there", point.isInside(0, 1, 2, 0, 70, -9), true);
@@ -519,7 +512,7 @@ public final class PromiseTest {
 
     /** The lines north = 500, east = 300 and east = -100: the fix lies between the last two. */
     private static SightReducer between() {
-        return loaded(SEA + "sight north 0 1806;sight east 0 1804;sight west 0 1802;");
+        return Checks.loaded(SEA + "sight north 0 1806;sight east 0 1804;sight west 0 1802;");
     }
 
     private static void fix() {
@@ -535,11 +528,11 @@ public final class PromiseTest {
         Checks.due("promise 18: one line", x.fix(0, false), HIDDEN);
         Checks.illegal("promise 18: time -1", () -> x.fix(-1, true));
         Checks.illegal("promise 18: time 5001", () -> x.fix(5001, false));
-        SightReducer far = loaded("body north 3600 0;body low 1800 8000;sight north 0 300;sight low 0 5100;");
+        SightReducer far = Checks.loaded("body north 3600 0;body low 1800 8000;sight north 0 300;sight low 0 5100;");
         Checks.due("promise 18: limited", far.fix(0, false), -1000000);
-        SightReducer down = loaded(SEA + "sight north 0 1806;sight east 0 1804;sight east 0 1803;sight east 0 1803;");
+        SightReducer down = Checks.loaded(SEA + "sight north 0 1806;sight east 0 1804;sight east 0 1803;sight east 0 1803;");
         Checks.due("promise 18: rounded down", down.fix(0, false), 233);
-        SightReducer west = loaded(SEA + "sight north 0 1806;sight west 0 1804;sight west 0 1803;sight west 0 1803;");
+        SightReducer west = Checks.loaded(SEA + "sight north 0 1806;sight west 0 1804;sight west 0 1803;sight west 0 1803;");
         Checks.due("promise 18: rounded down in the west", west.fix(0, false), -234);
     }
 
@@ -562,15 +555,15 @@ public final class PromiseTest {
         Checks.illegal("promise 19: time 5001", () -> x.residual(0, 5001));
         Checks.illegal("promise 20: time -1", () -> x.worst(-1));
         Checks.illegal("promise 20: time 5001", () -> x.worst(5001));
-        SightReducer alone = loaded(SEA + "sight north 0 1806;");
+        SightReducer alone = Checks.loaded(SEA + "sight north 0 1806;");
         Checks.due("promise 19: no fix", alone.residual(0, 0), HIDDEN);
         Checks.due("promise 20: no fix", alone.worst(0), NONE);
-        SightReducer good = loaded(SEA + "sight north 0 1806;sight east 0 1804;");
+        SightReducer good = Checks.loaded(SEA + "sight north 0 1806;sight east 0 1804;");
         Checks.due("promise 20: all residuals 0", good.worst(0), 0);
     }
 
     private static SightReducer crossingAt(String first, int north, String second, int east) {
-        return loaded(SEA + "sight " + first + " 0 " + (1801 + north) + ";sight " + second + " 0 " + (1801 + east) + ";");
+        return Checks.loaded(SEA + "sight " + first + " 0 " + (1801 + north) + ";sight " + second + " 0 " + (1801 + east) + ";");
     }
 
     private static void offCourseAndUnknownCurrent() {
@@ -592,16 +585,16 @@ public final class PromiseTest {
         Checks.due("promise 22: west", crossingAt("north", 0, "west", 3).unknownCurrent(9, false), 16200);
         Checks.due("promise 22: south", crossingAt("south", 3, "west", 0).unknownCurrent(9, false), 10800);
         Checks.due("promise 22: 0 instead of 21600", 
-                loaded(SEA + "body under 3600 10800;sight under 0 3000;sight west 0 1802;").unknownCurrent(9, false), 0);
+                Checks.loaded(SEA + "body under 3600 10800;sight under 0 3000;sight west 0 1802;").unknownCurrent(9, false), 0);
         SightReducer here = crossingAt("north", 0, "east", 0);
         Checks.due("promise 21: no distance", here.offCourse(7), 0);
         Checks.due("promise 22: no drift", here.unknownCurrent(7, true), 0);
         Checks.due("promise 22: no set", here.unknownCurrent(7, false), 0);
-        SightReducer near = loaded("body n 3600 21585;body e 0 17985;leg 0 0 6;sight n 1 1801;sight e 1 1801;");
+        SightReducer near = Checks.loaded("body n 3600 21585;body e 0 17985;leg 0 0 6;sight n 1 1801;sight e 1 1801;");
         Checks.due("promise 21: the least distance", near.offCourse(1), 1);
         Checks.due("promise 22: drift of the least distance", near.unknownCurrent(1, true), 6);
         Checks.due("promise 22: set of the least distance", near.unknownCurrent(1, false), 10800);
-        SightReducer alone = loaded(SEA + "sight north 0 1806;");
+        SightReducer alone = Checks.loaded(SEA + "sight north 0 1806;");
         Checks.due("promise 21: no fix", alone.offCourse(7), HIDDEN);
         Checks.due("promise 22: no fix, set", alone.unknownCurrent(7, false), HIDDEN);
         Checks.due("promise 22: no fix, drift", alone.unknownCurrent(7, true), HIDDEN);
@@ -620,7 +613,7 @@ public final class PromiseTest {
         Checks.due("promise 24: negative intercepts", x.meanIntercept(), -91.0f / 4.0f);
         x.drop(1);
         Checks.due("promise 24: thirds", x.meanIntercept(), -94.0f / 3.0f);
-        SightReducer alone = loaded(SEA + "sight north 0 1806;");
+        SightReducer alone = Checks.loaded(SEA + "sight north 0 1806;");
         Checks.due("promise 23: no fix", alone.meanResidual(0), 0.0);
         Checks.due("promise 23: no sights", new SightReducer().meanResidual(0), 0.0);
         Checks.due("promise 24: no sights", new SightReducer().meanIntercept(), 0.0f);
@@ -630,7 +623,7 @@ public final class PromiseTest {
     }
 
     private static void observe() {
-        SightReducer x = loaded(SEA);
+        SightReducer x = Checks.loaded(SEA);
         Checks.missing("promise 25: no such body, checked first", () -> x.observe(4, -1, 0));
         Checks.missing("promise 25: body -1", () -> x.observe(-1, 0, 300));
         Checks.illegal("promise 25: time -1", () -> x.observe(0, -1, 300));
@@ -652,7 +645,7 @@ public final class PromiseTest {
     }
 
     private static void drop() {
-        SightReducer x = loaded(SEA + "sight north 0 400;sight east 1 500;sight south 2 600;");
+        SightReducer x = Checks.loaded(SEA + "sight north 0 400;sight east 1 500;sight south 2 600;");
         Checks.missing("promise 26: sight 3", () -> x.drop(3));
         Checks.missing("promise 26: sight -1", () -> x.drop(-1));
         Checks.due("promise 26: nothing is recorded", x.undoCount(), 0);
@@ -695,7 +688,7 @@ public final class PromiseTest {
     }
 
     private static void setCurrent() {
-        SightReducer x = loaded("current 3 4;");
+        SightReducer x = Checks.loaded("current 3 4;");
         Checks.due("promise 28: the drift before", x.setCurrent(21599, 100), 4);
         Checks.due("promise 28: the set", x.told(7), 21599);
         Checks.due("promise 28: the drift", x.told(8), 100);
@@ -729,7 +722,7 @@ public final class PromiseTest {
     }
 
     private static void format() {
-        SightReducer x = loaded(SEA + "body abcdefgh 0 0;sight north 0 1806;sight west 0 1791;sight abcdefgh 0 300;");
+        SightReducer x = Checks.loaded(SEA + "body abcdefgh 0 0;sight north 0 1806;sight west 0 1791;sight abcdefgh 0 300;");
         Checks.due("promise 31: no call yet", x.formattedByte(0), NONE);
         Checks.due("promise 30: length", x.format(0), 17);
         Checks.due("promise 30: toward", Checks.formatted(x), "north 30'05 z0 t5");
@@ -758,7 +751,7 @@ public final class PromiseTest {
     }
 
     private static void undo() {
-        SightReducer x = loaded("current 1 2;eye 3;index 4;" + SEA + "leg 5 6 7;sight north 0 400;");
+        SightReducer x = Checks.loaded("current 1 2;eye 3;index 4;" + SEA + "leg 5 6 7;sight north 0 400;");
         String[] before = new String[13];
         for (int i = 0; i < 13; i++) {
             before[i] = Checks.everything(x);
@@ -783,7 +776,7 @@ public final class PromiseTest {
     }
 
     private static void snapshot() {
-        SightReducer x = loaded(SEA + "leg 5 6 7;sight north 0 400;eye 3;index 4;current 1 2;");
+        SightReducer x = Checks.loaded(SEA + "leg 5 6 7;sight north 0 400;eye 3;index 4;current 1 2;");
         x.steer(10, 11, 12);
         x.saveSnapshot();
         Checks.due("promise 34: the history stays", x.undoCount(), 1);
@@ -812,7 +805,7 @@ public final class PromiseTest {
     }
 
     private static SightReducer asked() {
-        return loaded(SEA + "sight north 0 1806;sight east 0 1804;sight south 0 1701;sight west 9 1802;");
+        return Checks.loaded(SEA + "sight north 0 1806;sight east 0 1804;sight south 0 1701;sight west 9 1802;");
     }
 
     private static void answer(String text, int due) {
@@ -861,7 +854,7 @@ public final class PromiseTest {
         Checks.query(x, "many sight=0");
         Checks.query(x, "first 1=1");
         Checks.due("promise 36: a query changes nothing", Checks.everything(x), before);
-        Checks.due("promise 36: below the horizon", Checks.query(loaded("body a 0 10800;sight a 0 300;"),
+        Checks.due("promise 36: below the horizon", Checks.query(Checks.loaded("body a 0 10800;sight a 0 300;"),
                 "many expected<0"), 1);
     }
 
