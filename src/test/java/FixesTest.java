@@ -209,6 +209,19 @@ public final class FixesTest {
         Checks.illegal("time, and no hat", () -> x.hat(0, 0, 0, 5001, 0));
     }
 
+    /** Promises 15 and 17: "if time ... is out of range": the ends 0 and 5000 are in it, and the hat goes with the ship. */
+    static void p15p17TheEndsOfTime() {
+        SightReducer x = onTheSea("leg 0 5400 6;body mid 1800 18000;sight north 0 1806;sight east 0 1804;sight mid 0 1600;");
+        int[][] due = {{0, 2657, 4028, 3743}, {5000, 7657, 4027, 3741}};
+        for (int[] row : due) {
+            Checks.due("area at " + row[0], x.hat(0, 1, 2, row[0], 0), row[3]);
+            Checks.due("east at " + row[0], x.hat(0, 1, 2, row[0], 1), row[1]);
+            Checks.due("north at " + row[0], x.hat(0, 1, 2, row[0], 2), row[2]);
+            Checks.due("inside at " + row[0], x.isInside(0, 1, 2, row[0], row[1], row[2]), true);
+            Checks.due("outside at " + row[0], x.isInside(0, 1, 2, row[0], row[1] - 2358, row[2]), false);
+        }
+    }
+
     // ---- The smallest hat ----
 
     /** Promise 16: "NONE if there is none": no sights, one, two, and three or four without a hat. */
